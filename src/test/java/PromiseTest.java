@@ -443,11 +443,31 @@ public final class PromiseTest {
         Check.equal(1, x.runCount(), "runCount: one run");
         Check.equal(9, x.runLength(0), "runLength: one run");
         Check.raises(INDEX, () -> x.runStart(1), "runStart: behind one run");
+        questionsAfterShrinking();
         RailTimeline empty = new RailTimeline();
         Check.equal(0, empty.runCount(), "runCount: empty");
         Check.raises(INDEX, () -> empty.runStart(0), "runStart: empty");
         Check.raises(INDEX, () -> empty.runLength(0), "runLength: empty");
         Check.raises(INDEX, () -> empty.runLevel(0), "runLevel: empty");
+    }
+
+    /** Nothing of a longer timeline is left in the answers about a shorter one. */
+    private static void questionsAfterShrinking() {
+        RailTimeline x = ofBars("1002034");
+        Check.equal("7 6", x.duration() + " " + x.runCount(), "before shrinking");
+        x.remove(1, 7);
+        Check.equal("1 0 1 0 1 1", x.runCount() + " " + x.restTicks() + " " + x.humTicks() + " " + x.restCount() + " " + x.loudness()
+                + " " + x.loudnessByLevels(), "after shrinking");
+        Check.equal("0 1 1 0", x.ticksAtLevel(0) + " " + x.ticksAtLevel(1) + " " + x.peakLevel() + " " + x.ticksAtLevel(4),
+                "levels after shrinking");
+        Check.raises(MISSING, () -> x.restStartByLength(0), "restStartByLength: after shrinking");
+        Check.raises(MISSING, () -> x.nextChange(0), "nextChange: after shrinking");
+        Check.raises(MISSING, () -> x.findRun(2, 1), "findRun: after shrinking");
+        x.insertRest(1, 6);
+        isBars("1000000", x, "insertRest after shrinking");
+        x.remove(1, 7);
+        x.pass(6, 1, 2);
+        isBars("1000002", x, "pass after shrinking");
     }
 
     private static void promises19To21TickCounts() {
@@ -572,7 +592,8 @@ public final class PromiseTest {
 
     private static void promises34And35Periods() {
         Object[][] due = {{"0", 1}, {"1111", 1}, {"12", 2}, {"1212", 2}, {"12121", 2}, {"121221", 5}, {"1213", 4}, {"12312312", 3},
-            {"1122", 4}, {"11211", 3}, {"112112111", 7}, {"0010010", 3}, {"1110", 4}, {"121231212412123121", 10}};
+            {"1122", 4}, {"11211", 3}, {"112112111", 7}, {"0010010", 3}, {"1110", 4}, {"121231212412123121", 10}, {"1121", 3}, {"11121112", 4},
+            {"121121122", 9}, {"1211", 3}, {"112113112112", 9}};
         for (Object[] d : due) {
             RailTimeline x = ofBars((String) d[0]);
             Check.equal(d[1], x.period(), "period of " + d[0]);
@@ -694,6 +715,7 @@ public final class PromiseTest {
         Check.equal(2.5, ofBars("0424").meanLevel(), "meanLevel");
         Check.equal(1.0 / 3.0, ofBars("001").meanLevel(), "meanLevel: a third");
         Check.equal(0.0, ofBars("00").meanLevel(), "meanLevel: silence");
+        Check.equal(7.0, ofBars("7").meanLevel(), "meanLevel: one tick");
         Check.raises(ARITHMETIC, () -> new RailTimeline().meanLevel(), "meanLevel: empty");
     }
 
@@ -701,6 +723,7 @@ public final class PromiseTest {
         Check.equal(0.25f, ofBars("1230").restShare(), "restShare");
         Check.equal(2f / 3f, ofBars("001").restShare(), "restShare: two thirds");
         Check.equal(1f, ofBars("00").restShare(), "restShare: silence");
+        Check.equal(1f, ofBars("0").restShare(), "restShare: one tick");
         Check.equal(0f, ofBars("12").restShare(), "restShare: no rest");
         Check.raises(ARITHMETIC, () -> new RailTimeline().restShare(), "restShare: empty");
     }
@@ -727,6 +750,10 @@ public final class PromiseTest {
         Check.equal("h9:10 r:102", notation(x), "renderNotation: joined runs, three digits");
         x.addMarker(3);
         Check.equal("h9:10 r:102", notation(x), "renderNotation: no markers");
+        load(x, "h1:9 h2:10 h3:11 h4:19 r:20");
+        Check.equal("h1:9 h2:10 h3:11 h4:19 r:20", notation(x), "renderNotation: one and two digits");
+        load(x, "r:99 h1:100");
+        Check.equal("r:99 h1:100", notation(x), "renderNotation: 99 and 100");
         Check.equal("r:200", notation(ofFullLength()), "renderNotation: 200");
         RailTimeline longest = ofBars("12");
         longest.repeat(0, 2, 9);
@@ -837,6 +864,9 @@ public final class PromiseTest {
         isBars("88100010", x, "modulate");
         Check.equal(1, run(x, "pass 007 01 009"), "runScript: leading zeros");
         isBars("88100019", x, "leading zeros");
+        Check.equal(2, run(x, "modulate 0 2 -1;modulate 0 1 -002"), "runScript: modulate down");
+        isBars("57100019", x, "modulate down by a script");
+        Check.equal(1, run(x, "pass 0 2 8"), "runScript: pass");
         Check.equal(8, run(x, "mark 0;mark 1;mark 2;mark 3;mark 4;mark 5;mark 0;mark 1"), "runScript: the most commands");
         Check.equal(6, x.markerCount(), "runScript: the markers of the most commands");
         Check.equal(1, run(x, "unmark 999"), "runScript: a marker that is not there");
