@@ -1,6 +1,7 @@
 import java.lang.reflect.InvocationTargetException;
 import java.lang.reflect.Method;
 import java.lang.reflect.Modifier;
+import java.util.Arrays;
 import java.util.List;
 import java.util.Map;
 import java.util.TreeMap;
@@ -40,7 +41,7 @@ final class Caller {
     }
 
     String call(String name, int... arguments) {
-        return call(name, java.util.Arrays.stream(arguments).mapToObj(String::valueOf).toList());
+        return call(name, Arrays.stream(arguments).mapToObj(String::valueOf).toList());
     }
 
     private void countCall() {

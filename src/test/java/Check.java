@@ -1,6 +1,13 @@
-/** Compares answers with what is due, prints every wrong one and counts them. */
+/** Compares answers with what is due, prints every wrong one and counts them. Ends a test that does not end by itself. */
 final class Check {
+    private static final int MOST_SECONDS = 120;
     private static int wrong = 0;
+
+    static {
+        Thread watch = new Thread(Check::endLateTest);
+        watch.setDaemon(true);
+        watch.start();
+    }
 
     private Check() {
     }
@@ -42,8 +49,14 @@ final class Check {
         System.out.println(message);
     }
 
-    static boolean isAnyWrong() {
-        return wrong > 0;
+    private static void endLateTest() {
+        try {
+            Thread.sleep(1000L * MOST_SECONDS);
+        } catch (InterruptedException e) {
+            return;
+        }
+        System.out.println("not ended after " + MOST_SECONDS + " seconds: a call does not end");
+        Runtime.getRuntime().halt(1);
     }
 
     static void end() {

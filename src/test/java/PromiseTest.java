@@ -763,6 +763,15 @@ public final class PromiseTest {
         x.remove(0, x.duration());
         Check.equal("", notation(x), "renderNotation: the empty text replaces the older one");
         longestNotation();
+        eachLengthAndLevel();
+    }
+
+    private static void eachLengthAndLevel() {
+        for (int ticks = 1; ticks <= 200; ticks++) {
+            int level = ticks % 10;
+            String run = (level == 0 ? "r" : "h" + level) + ":" + ticks;
+            Check.equal(run, notation(of(run)), "renderNotation: one run");
+        }
     }
 
     /** Read from three objects, for one answers no more than 512 calls. */

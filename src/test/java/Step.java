@@ -1,4 +1,5 @@
 import java.util.ArrayList;
+import java.util.Collections;
 import java.util.List;
 import java.util.Set;
 
@@ -107,7 +108,7 @@ record Step(String line, String name, List<String> arguments, String due) {
     private static List<String> due(char sign, String rest, int calls) {
         List<String> given = sign == ' ' ? List.of(ANY) : sign == '!' ? List.of("!" + rest) : elements(rest);
         if (given.size() == 1) {
-            return java.util.Collections.nCopies(calls, given.get(0));
+            return Collections.nCopies(calls, given.get(0));
         }
         if (given.size() != calls) {
             throw new IllegalArgumentException(given.size() + " answers for " + calls + " calls: " + rest);
